@@ -208,8 +208,8 @@ public final class RlRounds {
     }
 
     /**
-     * The rules and, in the rows behind them, the kinds of clashes, as patterns of three slots each.
-     * A slot below TERMS is that term; the others are the letters of the document.
+     * The rules and, in the rows behind them, the kinds of clashes, as patterns of three slots
+     * each. A slot below TERMS is that term; the others are the letters of the document.
      */
     private static final class Table {
         static final int TYPE = 0;
@@ -254,7 +254,7 @@ public final class RlRounds {
         };
 
         /** What each rule gives. */
-        private static final int[] GIVEN = {
+        static final int[] GIVEN = {
             Y, SAME, X,
             X, SAME, Z,
             Y, P, Z,
@@ -279,7 +279,7 @@ public final class RlRounds {
         };
 
         /** The premises of each row; zeros fill a row that has fewer than four. */
-        private static final int[] PREMISES = {
+        static final int[] PREMISES = {
             X, SAME, Y, 0, 0, 0, 0, 0, 0, 0, 0, 0,
             X, SAME, Y, Y, SAME, Z, 0, 0, 0, 0, 0, 0,
             X, SAME, Y, X, P, Z, 0, 0, 0, 0, 0, 0,
@@ -310,26 +310,19 @@ public final class RlRounds {
             return row >= 0 && row < COUNTS.length ? COUNTS[row] : 0;
         }
 
-        /** The slot of a premise for its s (part 0), p (1) or o (2). */
-        static int premiseSlot(int row, int premise, int part) {
-            return PREMISES[ROW * row + SLOTS * premise + part];
+        /** Where the three slots of a premise stand in PREMISES. */
+        static int premiseAt(int row, int premise) {
+            return ROW * row + SLOTS * premise;
         }
 
-        /** Letters such that a premise becomes a triple, or Letters.MISS. */
-        static long fitPremise(int row, int premise, int code, long letters) {
-            int at = ROW * row + SLOTS * premise;
-            return Letters.fit(PREMISES[at], PREMISES[at + 1], PREMISES[at + 2], code, letters);
+        /** Where the three slots of what a rule gives stand in GIVEN. */
+        static int givenAt(int row) {
+            return SLOTS * row;
         }
 
-        /** Letters such that a rule gives a triple, or Letters.MISS. */
-        static long fitGiven(int row, int code) {
-            int at = SLOTS * row;
-            return Letters.fit(GIVEN[at], GIVEN[at + 1], GIVEN[at + 2], code, Letters.FREE);
-        }
-
-        /** The code of what a rule gives; every letter of it stands in a premise, so none is free. */
+        /** What a rule gives; each letter of it stands in a premise, so none is free here. */
         static int givenCode(int row, long letters) {
-            int at = SLOTS * row;
+            int at = givenAt(row);
             return codeOf(
                     Letters.termOf(GIVEN[at], letters),
                     Letters.termOf(GIVEN[at + 1], letters),
@@ -363,20 +356,26 @@ public final class RlRounds {
             return known == term ? letters : MISS;
         }
 
-        /** The middle slot goes first because it refuses most triples at once. */
-        static long fit(int slotS, int slotP, int slotO, int code, long letters) {
-            long bound = bind(slotP, code / TERMS % TERMS, letters);
+        /**
+         * Letters such that the pattern of three slots at a place becomes a triple, or MISS. The
+         * middle slot goes first because it refuses most triples at once.
+         */
+        static long fit(int[] slots, int at, int code, long letters) {
+            if (at < 0 || at + 2 >= slots.length) {
+                return MISS;
+            }
+            long bound = bind(slots[at + 1], code / TERMS % TERMS, letters);
             if (bound != MISS) {
-                bound = bind(slotS, code / TERMS / TERMS, bound);
+                bound = bind(slots[at], code / TERMS / TERMS, bound);
             }
             if (bound != MISS) {
-                bound = bind(slotO, code % TERMS, bound);
+                bound = bind(slots[at + 2], code % TERMS, bound);
             }
             return bound;
         }
     }
 
-    /** A set of triples that can be gone through by codes, whichever of the three terms are known. */
+    /** A set of triples that can be gone through by codes, whichever of their terms are known. */
     private static final class Triples {
         /** By 32 s + p: the set of o. */
         private final int[] objects;
@@ -413,7 +412,7 @@ public final class RlRounds {
         }
 
         boolean has(int code) {
-            return code >= 0 && code < CODES && contains(objects[code / TERMS], code % TERMS);
+            return code >= 0 && code < CODES && (objects[code / TERMS] & 1 << code % TERMS) != 0;
         }
 
         /** The set of s that a triple may have, with s and p known or NONE. */
@@ -488,9 +487,10 @@ public final class RlRounds {
             if (premise == fixed) {
                 return join(by, row, premise + 1, fixed, letters);
             }
-            int knownS = Letters.termOf(Table.premiseSlot(row, premise, 0), letters);
-            int knownP = Letters.termOf(Table.premiseSlot(row, premise, 1), letters);
-            int knownO = Letters.termOf(Table.premiseSlot(row, premise, 2), letters);
+            int at = Table.premiseAt(row, premise);
+            int knownS = Letters.termOf(Table.PREMISES[at], letters);
+            int knownP = Letters.termOf(Table.PREMISES[at + 1], letters);
+            int knownO = Letters.termOf(Table.PREMISES[at + 2], letters);
             int setS = by.held.subjectsFor(knownS, knownP);
             for (int leftS = Integer.bitCount(setS); leftS > 0; leftS--) {
                 int s = leastOf(setS);
@@ -504,7 +504,7 @@ public final class RlRounds {
                         int code = codeOf(s, p, leastOf(setO));
                         setO = withoutLeast(setO);
                         by.chosen[premise] = code;
-                        long bound = Table.fitPremise(row, premise, code, letters);
+                        long bound = Letters.fit(Table.PREMISES, at, code, letters);
                         if (bound != Letters.MISS && join(by, row, premise + 1, fixed, bound)) {
                             return true;
                         }
@@ -568,7 +568,8 @@ public final class RlRounds {
             for (int row = 0; row < RULES; row++) {
                 int premises = contains(rulesOn, row) ? Table.premiseCount(row) : 0;
                 for (int fixed = 0; fixed < premises; fixed++) {
-                    long letters = Table.fitPremise(row, fixed, code, Letters.FREE);
+                    int at = Table.premiseAt(row, fixed);
+                    long letters = Letters.fit(Table.PREMISES, at, code, Letters.FREE);
                     if (letters != Letters.MISS && Matcher.join(this, row, 0, fixed, letters)) {
                         return;
                     }
@@ -632,7 +633,10 @@ public final class RlRounds {
             wanted = index;
             met = 0;
             for (int row = 0; row < RULES; row++) {
-                long letters = contains(rulesOn, row) ? Table.fitGiven(row, code) : Letters.MISS;
+                if (!contains(rulesOn, row)) {
+                    continue;
+                }
+                long letters = Letters.fit(Table.GIVEN, Table.givenAt(row), code, Letters.FREE);
                 if (letters != Letters.MISS && Matcher.join(this, row, 0, NONE, letters)) {
                     return true;
                 }

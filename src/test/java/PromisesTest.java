@@ -37,6 +37,7 @@ public final class PromisesTest {
         promise9Ways();
         promise10Way();
         promise11Clashes();
+        promise11EachTermCounts();
         promise12Clash();
         promise13Group();
         promise14Said();
@@ -207,28 +208,28 @@ public final class PromisesTest {
 
     /** The last triple follows by that rule alone from those before, and not with one of them less. */
     private static void promise5EachRuleGives() {
-        gives(0, 20, SAME, 21, 21, SAME, 20);
-        gives(1, 20, SAME, 21, 21, SAME, 22, 20, SAME, 22);
-        gives(2, 20, SAME, 21, 20, 30, 22, 21, 30, 22);
-        gives(3, 20, SAME, 21, 22, 30, 20, 22, 30, 21);
-        gives(4, 30, FROM, 25, 20, 30, 21, 20, TYPE, 25);
-        gives(5, 30, TO, 25, 20, 30, 21, 21, TYPE, 25);
-        gives(6, 30, TYPE, BOTH, 20, 30, 21, 21, 30, 20);
-        gives(7, 30, TYPE, FAR, 20, 30, 21, 21, 30, 22, 20, 30, 22);
-        gives(8, 30, TURNED, 31, 20, 30, 21, 21, 31, 20);
-        gives(9, 30, TURNED, 31, 20, 31, 21, 21, 30, 20);
-        gives(10, 30, UNDER, 31, 20, 30, 21, 20, 31, 21);
-        gives(11, 29, UNDER, 30, 30, UNDER, 31, 29, UNDER, 31);
-        gives(12, 25, BELOW, 26, 20, TYPE, 25, 20, TYPE, 26);
-        gives(13, 25, BELOW, 26, 26, BELOW, 27, 25, BELOW, 27);
-        gives(14, 30, TYPE, ONE, 20, 30, 21, 20, 30, 22, 21, SAME, 22);
-        gives(15, 30, TYPE, ONCE, 20, 30, 22, 21, 30, 22, 20, SAME, 21);
-        gives(16, 25, SOME, 26, 25, BY, 30, 20, 30, 21, 21, TYPE, 26, 20, TYPE, 25);
-        gives(17, 25, ALL, 26, 25, BY, 30, 20, TYPE, 25, 20, 30, 21, 21, TYPE, 26);
-        gives(18, 25, HAS, 22, 25, BY, 30, 20, TYPE, 25, 20, 30, 22);
-        gives(19, 25, HAS, 22, 25, BY, 30, 20, 30, 22, 20, TYPE, 25);
-        gives(20, 29, FIRST, 30, 29, THEN, 31, 20, 30, 21, 21, 31, 22, 20, 29, 22);
-        gives(20, 29, FIRST, 30, 29, THEN, 30, 20, 30, 21, 21, 30, 22, 20, 29, 22);
+        givesJust(0, 20, SAME, 21, 21, SAME, 20);
+        givesJust(1, 20, SAME, 21, 21, SAME, 22, 20, SAME, 22);
+        givesJust(2, 20, SAME, 21, 20, 30, 22, 21, 30, 22);
+        givesJust(3, 20, SAME, 21, 22, 30, 20, 22, 30, 21);
+        givesJust(4, 30, FROM, 25, 20, 30, 21, 20, TYPE, 25);
+        givesJust(5, 30, TO, 25, 20, 30, 21, 21, TYPE, 25);
+        givesJust(6, 30, TYPE, BOTH, 20, 30, 21, 21, 30, 20);
+        givesJust(7, 30, TYPE, FAR, 20, 30, 21, 21, 30, 22, 20, 30, 22);
+        givesJust(8, 30, TURNED, 31, 20, 30, 21, 21, 31, 20);
+        givesJust(9, 30, TURNED, 31, 20, 31, 21, 21, 30, 20);
+        givesJust(10, 30, UNDER, 31, 20, 30, 21, 20, 31, 21);
+        givesJust(11, 29, UNDER, 30, 30, UNDER, 31, 29, UNDER, 31);
+        givesJust(12, 25, BELOW, 26, 20, TYPE, 25, 20, TYPE, 26);
+        givesJust(13, 25, BELOW, 26, 26, BELOW, 27, 25, BELOW, 27);
+        givesJust(14, 30, TYPE, ONE, 20, 30, 21, 20, 30, 22, 21, SAME, 22);
+        givesJust(15, 30, TYPE, ONCE, 20, 30, 22, 21, 30, 22, 20, SAME, 21);
+        givesJust(16, 25, SOME, 26, 25, BY, 30, 20, 30, 21, 21, TYPE, 26, 20, TYPE, 25);
+        givesJust(17, 25, ALL, 26, 25, BY, 30, 20, TYPE, 25, 20, 30, 21, 21, TYPE, 26);
+        givesJust(18, 25, HAS, 22, 25, BY, 30, 20, TYPE, 25, 20, 30, 22);
+        givesJust(19, 25, HAS, 22, 25, BY, 30, 20, 30, 22, 20, TYPE, 25);
+        givesJust(20, 29, FIRST, 30, 29, THEN, 31, 20, 30, 21, 21, 31, 22, 20, 29, 22);
+        givesJust(20, 29, FIRST, 30, 29, THEN, 30, 20, 30, 21, 21, 30, 22, 20, 29, 22);
         // Letters stand for terms with a meaning too.
         gives(6, TYPE, TYPE, BOTH, 20, TYPE, 21, 21, TYPE, 20);
         gives(10, UNDER, UNDER, BELOW, 20, UNDER, 21, 20, BELOW, 21);
@@ -236,48 +237,80 @@ public final class PromisesTest {
 
     private static void gives(int rule, int... terms) {
         int premises = terms.length / 3 - 1;
-        String name = "5: rule " + rule;
-        due(name, givenWithout(rule, -1, terms).round(goal(terms, 0), goal(terms, 1), goal(terms, 2)), 1);
-        for (int left = 0; left < premises; left++) {
-            RlRounds x = givenWithout(rule, left, terms);
-            due(name + " without premise " + left,
-                    x.round(goal(terms, 0), goal(terms, 1), goal(terms, 2)), RlRounds.NO);
-        }
-        RlRounds x = givenWithout(rule, -1, terms);
-        int at = -1;
-        int ways = x.ways(goal(terms, 0), goal(terms, 1), goal(terms, 2));
-        for (int i = 0; i < ways && at < 0; i++) {
-            boolean all = true;
-            for (int k = 0; k < premises; k++) {
-                int premise = code(terms[3 * k], terms[3 * k + 1], terms[3 * k + 2]);
-                all &= x.way(goal(terms, 0), goal(terms, 1), goal(terms, 2), i, k + 1) == premise;
-            }
-            at = all ? i : -1;
-        }
-        due("10: a way of rule " + rule + " has its premises in their order", at >= 0 ? 1 : 0, 1);
-        due("10: rule " + rule, x.way(goal(terms, 0), goal(terms, 1), goal(terms, 2), 0, 0), rule);
+        String name = "rule " + rule;
+        RlRounds x = onlyRule(rule, terms);
+        due("5: " + name, goalRound(x, terms), 1);
+        due("9: ways of " + name, x.ways(goal(terms, 0), goal(terms, 1), goal(terms, 2)) > 0 ? 1 : 0, 1);
+        due("10: " + name, goalWay(x, terms, 0, 0), rule);
+        due("10: " + name + " has its premises in their order", hasWay(x, premises, terms) ? 1 : 0, 1);
         for (int k = premises + 1; k <= 4; k++) {
-            due("10: rule " + rule + " has no premise " + k,
-                    x.way(goal(terms, 0), goal(terms, 1), goal(terms, 2), 0, k), RlRounds.NO);
+            due("10: " + name + " has no premise " + k, goalWay(x, terms, 0, k), RlRounds.NO);
         }
         x.rule(rule, false);
-        due(name + " off", x.round(goal(terms, 0), goal(terms, 1), goal(terms, 2)), RlRounds.NO);
-        due("9: no way by a rule that is off", x.ways(goal(terms, 0), goal(terms, 1), goal(terms, 2)), 0);
+        due("5: " + name + " off", goalRound(x, terms), RlRounds.NO);
+        due("9: no way by " + name + " off", x.ways(goal(terms, 0), goal(terms, 1), goal(terms, 2)), 0);
+        for (int left = 0; left < premises; left++) {
+            RlRounds less = onlyRule(rule, terms);
+            less.unsay(terms[3 * left], terms[3 * left + 1], terms[3 * left + 2]);
+            due("5: " + name + " without premise " + left, goalRound(less, terms), RlRounds.NO);
+        }
+    }
+
+    /** As gives, and it does not follow when a term is another one, unless that letter is alone. */
+    private static void givesJust(int rule, int... terms) {
+        gives(rule, terms);
+        for (int at = 0; at < terms.length - 3; at++) {
+            int[] other = terms.clone();
+            other[at] = 28;
+            boolean alone = terms[at] >= 20 && times(terms[at], terms) == 1;
+            due("5: rule " + rule + " with another term at " + at,
+                    goalRound(onlyRule(rule, other), other), alone ? 1 : RlRounds.NO);
+        }
+    }
+
+    private static int times(int term, int[] terms) {
+        int times = 0;
+        for (int each : terms) {
+            times += each == term ? 1 : 0;
+        }
+        return times;
     }
 
     private static int goal(int[] terms, int part) {
         return terms[terms.length - 3 + part];
     }
 
-    private static RlRounds givenWithout(int rule, int left, int[] terms) {
+    private static int goalRound(RlRounds x, int[] terms) {
+        return x.round(goal(terms, 0), goal(terms, 1), goal(terms, 2));
+    }
+
+    private static int goalWay(RlRounds x, int[] terms, int i, int what) {
+        return x.way(goal(terms, 0), goal(terms, 1), goal(terms, 2), i, what);
+    }
+
+    private static boolean hasWay(RlRounds x, int premises, int[] terms) {
+        int ways = x.ways(goal(terms, 0), goal(terms, 1), goal(terms, 2));
+        for (int i = 0; i < ways; i++) {
+            boolean all = true;
+            for (int k = 0; k < premises; k++) {
+                int premise = code(terms[3 * k], terms[3 * k + 1], terms[3 * k + 2]);
+                all &= goalWay(x, terms, i, k + 1) == premise;
+            }
+            if (all) {
+                return true;
+            }
+        }
+        return false;
+    }
+
+    /** All but the last triple is SAID, and no rule but one is on. */
+    private static RlRounds onlyRule(int rule, int[] terms) {
         RlRounds x = new RlRounds();
         for (int other = 0; other < 21; other++) {
             x.rule(other, other == rule);
         }
-        for (int k = 0; k < terms.length / 3 - 1; k++) {
-            if (k != left) {
-                x.say(terms[3 * k], terms[3 * k + 1], terms[3 * k + 2]);
-            }
+        for (int at = 0; at < terms.length - 3; at += 3) {
+            x.say(terms[at], terms[at + 1], terms[at + 2]);
         }
         return x;
     }
@@ -340,6 +373,10 @@ public final class PromisesTest {
         due("8: one step", order.round(20, 23, 22), 1);
         due("8: two steps", order.round(20, 24, 22), 2);
         due("8: three steps", order.round(20, 25, 22), 3);
+        // What is the same comes after the triple that it takes over.
+        RlRounds late = saying(30, TYPE, ONE, 20, 30, 21, 20, 30, 22, 24, 25, 21);
+        due("8: SAME comes first", late.round(21, SAME, 22), 1);
+        due("8: and then what it takes over", late.round(24, 25, 22), 2);
     }
 
     private static void promise9Ways() {
@@ -411,6 +448,32 @@ public final class PromisesTest {
         due("11: of what follows", follows.clashes(), 1);
         follows.rule(12, false);
         due("11: it follows no more", follows.clashes(), 0);
+    }
+
+    /** Each term counts: with another one instead there is no clash. */
+    private static void promise11EachTermCounts() {
+        int[][] kinds = {
+            {20, SAME, 21, 20, OTHER, 21},
+            {25, APART, 26, 20, TYPE, 25, 20, TYPE, 26},
+            {25, NEVER, 26, 20, 25, 21, 20, 26, 21}
+        };
+        for (int kind = 0; kind < kinds.length; kind++) {
+            due("11: kind " + kind, saidWithoutRules(kinds[kind]).clashes(), 1);
+            due("12: kind " + kind, saidWithoutRules(kinds[kind]).clash(0, 0), kind);
+            for (int at = 0; at < kinds[kind].length; at++) {
+                int[] other = kinds[kind].clone();
+                other[at] = 28;
+                due("11: kind " + kind + " with another term at " + at, saidWithoutRules(other).clashes(), 0);
+            }
+        }
+    }
+
+    private static RlRounds saidWithoutRules(int[] terms) {
+        RlRounds x = saying(terms);
+        for (int rule = 0; rule < 21; rule++) {
+            x.rule(rule, false);
+        }
+        return x;
     }
 
     private static void promise12Clash() {
