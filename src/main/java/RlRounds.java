@@ -553,20 +553,36 @@ public final class RlRounds {
                 for (int i = from; i < to; i++) {
                     held.put(codes[i]);
                 }
+                int rules = rulesOn & rulesInReach();
                 for (int i = from; i < to && !large; i++) {
-                    applyRules(codes[i], rulesOn);
+                    applyRules(codes[i], rules);
                 }
                 from = to;
             }
         }
 
         /**
+         * The first premise of every rule names its predicate, so most rules can be left out of a
+         * round at once.
+         */
+        private int rulesInReach() {
+            int rules = 0;
+            for (int row = 0; row < RULES; row++) {
+                int p = Table.PREMISES[Table.premiseAt(row, 0) + 1];
+                if (held.subjectsFor(NONE, p) != 0) {
+                    rules |= 1 << row;
+                }
+            }
+            return rules;
+        }
+
+        /**
          * An instance gives something new only in the round after its last premise has come, so it
          * is enough to look at those with a premise of the round before.
          */
-        private void applyRules(int code, int rulesOn) {
+        private void applyRules(int code, int rules) {
             for (int row = 0; row < RULES; row++) {
-                int premises = contains(rulesOn, row) ? Table.premiseCount(row) : 0;
+                int premises = contains(rules, row) ? Table.premiseCount(row) : 0;
                 for (int fixed = 0; fixed < premises; fixed++) {
                     int at = Table.premiseAt(row, fixed);
                     long letters = Letters.fit(Table.PREMISES, at, code, Letters.FREE);
