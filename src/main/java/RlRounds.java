@@ -594,7 +594,9 @@ public final class RlRounds {
         }
 
         boolean meet(int row, long letters) {
-            add(Table.givenCode(row, letters));
+            if (row >= 0 && row < RULES) {
+                add(Table.givenCode(row, letters));
+            }
             return large;
         }
 

@@ -316,7 +316,7 @@ public final class OracleTest {
         int o = style.spoil(code & 31);
         boolean bad = Oracle.bad(s, p, o);
         String terms = "(" + s + ", " + p + ", " + o + ")";
-        switch (random.nextInt(10)) {
+        switch (random.nextInt(11)) {
             case 0 -> due(at + "run()", x.run(), large ? RlRounds.LARGE : oracle.last);
             case 1 -> due(at + "size()", x.size(), large ? RlRounds.LARGE : oracle.held.size());
             case 2 -> {
@@ -353,40 +353,68 @@ public final class OracleTest {
                         what < 0 || what > 3 ? RlRounds.BAD
                                 : large ? RlRounds.LARGE : Oracle.of(rows, i, what));
             }
-            default -> {
+            case 9 -> {
                 int term = style.spoil(style.end());
                 due(at + "group(" + term + ")", x.group(term),
                         Oracle.bad(term) ? RlRounds.BAD : large ? RlRounds.LARGE : oracle.group(term));
-                due(at + "said()", x.said(), oracle.said.size());
             }
+            default -> due(at + "said()", x.said(), oracle.said.size());
+        }
+    }
+
+    /** Objects in the oracle's state: a new one whenever 512 calls are used up. */
+    private static final class Fresh {
+        final Oracle oracle;
+        RlRounds x;
+        int left;
+
+        Fresh(Oracle oracle) {
+            this.oracle = oracle;
+        }
+
+        RlRounds next() {
+            if (left == 0) {
+                x = new RlRounds();
+                for (int rule = 0; rule < RULES.length; rule++) {
+                    x.rule(rule, oracle.on[rule]);
+                }
+                for (int code : oracle.said) {
+                    x.say(code >> 10, code >> 5 & 31, code & 31);
+                }
+                left = CALLS - RULES.length - oracle.said.size();
+            }
+            left--;
+            return x;
         }
     }
 
     /** Every answer that can be asked for in the state that a run ends in. */
-    private static void askAll(String at, RlRounds x, Oracle oracle) {
+    private static void askAll(String at, Oracle oracle) {
         oracle.derive();
+        Fresh fresh = new Fresh(oracle);
         if (oracle.large) {
+            due(at + "size()", fresh.next().size(), RlRounds.LARGE);
             return;
         }
-        int at0 = 0;
+        int place = 0;
         for (int code : oracle.held.keySet()) {
-            due(at + "triple(" + at0 + ")", x.triple(at0), code);
-            at0++;
+            due(at + "triple(" + place + ")", fresh.next().triple(place), code);
+            place++;
             int s = code >> 10;
             int p = code >> 5 & 31;
             int o = code & 31;
-            due(at + "round of " + code, x.round(s, p, o), oracle.held.get(code));
+            due(at + "round of " + code, fresh.next().round(s, p, o), oracle.held.get(code));
             List<int[]> rows = oracle.waysTo(code);
-            due(at + "ways of " + code, x.ways(s, p, o), rows.size());
+            due(at + "ways of " + code, fresh.next().ways(s, p, o), rows.size());
             for (int i = 0; i < rows.size(); i += 1 + rows.size() / 20) {
                 for (int what = 0; what <= 4; what++) {
-                    due(at + "way of " + code, x.way(s, p, o, i, what), Oracle.of(rows, i, what));
+                    due(at + "way of " + code, fresh.next().way(s, p, o, i, what), Oracle.of(rows, i, what));
                 }
             }
         }
         for (int i = 0; i < oracle.clashes.size(); i++) {
             for (int what = 0; what <= 3; what++) {
-                due(at + "clash " + i, x.clash(i, what), Oracle.of(oracle.clashes, i, what));
+                due(at + "clash " + i, fresh.next().clash(i, what), Oracle.of(oracle.clashes, i, what));
             }
         }
     }
@@ -406,7 +434,7 @@ public final class OracleTest {
                     ask(at, style, x, oracle);
                 }
             }
-            askAll("run " + run + ", at its end: ", x, oracle);
+            askAll("run " + run + ", at its end: ", oracle);
         }
         System.out.println("answers in a LARGE state " + larges + ", ways " + waysSeen + ", clashes "
                 + clashesSeen + ", most triples " + mostHeld + ", most rounds " + mostRounds);
